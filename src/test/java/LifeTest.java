@@ -479,6 +479,7 @@ public final class LifeTest {
         Check.refuses("about a dead one", SUPPORT, () -> x.tell(1, 0));
         Check.refuses("no such teller", BOUNDS, () -> x.tell(6, 0));
         Check.refuses("no such person", BOUNDS, () -> x.tell(0, -1));
+        farTellers();
         String[] names = {"red", "tall", "wise", "lame"};
         for (int i = 0; i < 4; i++) {
             Namebearers y = new Namebearers();
@@ -491,6 +492,25 @@ public final class LifeTest {
             y.tell(2, 3);
             Check.due("by-name " + i, Check.name(y, 3, 'b'), names[i]);
         }
+    }
+
+    private static void farTellers() {
+        Namebearers x = new Namebearers();
+        for (int i = 0; i < 40; i++) {
+            born(x, 'f', 4, 0);
+        }
+        x.deed(39, 1);
+        Check.due("by 0", x.tell(0, 39), 1);
+        Check.due("by 32", x.tell(32, 39), 2);
+        Check.due("by 32 again", x.tell(32, 39), 2);
+        Check.due("by 38", x.tell(38, 39), 3);
+        Check.due("by 6", x.tell(6, 39), 4);
+        x.petition(0, 4, 'u');
+        Check.due("opposed by 1", x.oppose(0, 1), 1);
+        Check.due("opposed by 33", x.oppose(0, 33), 2);
+        Check.due("opposed by 39", x.oppose(0, 39), 3);
+        Check.due("opposed by 7", x.oppose(0, 7), 4);
+        Check.refuses("opposed by 33 again", STATE, () -> x.oppose(0, 33));
     }
 
     private static void move() {

@@ -76,6 +76,7 @@ public final class LinksTest {
         Namebearers x = withPersons(0);
         int[] days = {9, 1, 9, 171, 9, 1, 9, 1, 999};
         int[] due = {0, 1, 1, 19, 19, 20, 20, 20, 20};
+        x.days(500);
         x.record(0, 0, 0);
         for (int i = 0; i < days.length; i++) {
             x.days(days[i]);
@@ -102,6 +103,8 @@ public final class LinksTest {
         Check.due("alike", x.distance(5, 6, false), 0);
         Check.due("second names", x.distance(5, 6, true), 1);
         Check.due("to an empty one", x.distance(0, 5, true), 7);
+        Check.due("to an empty one", x.distance(0, 6, true), 8);
+        Check.due("anna, david", x.distance(0, 6, false), 4);
         Check.due("from an empty one", x.distance(5, 0, true), 7);
         Check.due("both empty", x.distance(0, 1, true), 0);
         x.slip(1, false, 0, 'a');
@@ -287,6 +290,7 @@ public final class LinksTest {
         checkClusters(x, 1, 0, 0, 0, 0);
         x.setPrice(0);
         x.slip(1, false, 0, 'e');
+        Check.due("clusters() first", x.clusters(), 2);
         checkClusters(x, 2, 0, 1, 0, 0);
         x.setPrice(12);
         checkClusters(x, 1, 0, 0, 0, 0);
@@ -317,6 +321,23 @@ public final class LinksTest {
         seal(x, 1, 0);
         Check.due("closed", x.doubts(), 1);
         doubtsByPrice();
+        manyDoubts();
+    }
+
+    private static void manyDoubts() {
+        Namebearers x = new Namebearers();
+        for (int i = 0; i < 20; i++) {
+            x.birth(-1, -1, "mf".charAt(i % 2), i % 16, 0);
+        }
+        for (int i = 0; i < 40; i++) {
+            x.record(i / 2, 0, 0);
+            x.slip(i, false, 0, (char) ('a' + i / 2));
+            x.slip(i, false, 1, (char) ('a' + i / 2));
+            x.slip(i, false, 2, (char) ('z' - i / 2));
+        }
+        x.setPrice(30);
+        Check.due("as many as clusters", x.clusters(), 20);
+        Check.due("twenty", x.doubts(), 20);
     }
 
     private static void doubtsByPrice() {

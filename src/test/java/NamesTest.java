@@ -85,6 +85,15 @@ public final class NamesTest {
         x.addRule(3, 'i', 'k', ' ', ' ');
         x.move(1, 3, 3);
         Check.due("f, by-name and second", Check.name(x, 1, 'f'), "lame larsson");
+        x.setLimit(2, 1);
+        x.setLimit(3, 1);
+        x.dropRules(3);
+        x.move(0, 1, 2);
+        Check.due("f, of one letter and a by-name", Check.name(x, 0, 'f'), "l tall");
+        born(x, 2);
+        x.birth(-1, 0, 'f', 8, 0);
+        x.move(5, 1, 3);
+        Check.due("f, of two single letters", Check.name(x, 5, 'f'), "i l");
     }
 
     private static void length() {
@@ -244,6 +253,10 @@ public final class NamesTest {
         x.days(30);
         x.decide(0);
         Check.due("the dead and the renamed do", x.fashion(5, 5), 8);
+        born(x, 15);
+        Check.due("name 15", x.fashion(40, 40), 15);
+        born(x, 0);
+        Check.due("name 0", x.fashion(40, 40), 0);
     }
 
     private static void addRule() {
