@@ -62,6 +62,12 @@ final class Calls {
         if (made > MOST) {
             throw new IllegalStateException("a test makes more than 512 calls");
         }
+        String answer = answerOf(method, arguments);
+        Seen.note(method, arguments, answer);
+        return answer;
+    }
+
+    private String answerOf(Method method, Object[] arguments) {
         try {
             return shown(method.invoke(x, arguments));
         } catch (InvocationTargetException e) {
@@ -70,6 +76,10 @@ final class Calls {
         } catch (IllegalAccessException e) {
             throw new IllegalStateException(e);
         }
+    }
+
+    static Iterable<Method> allOfTheFace() {
+        return FACE.values();
     }
 
     private static Object argument(String told, Class<?> type) {

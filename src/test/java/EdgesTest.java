@@ -10,6 +10,7 @@ public final class EdgesTest {
         OrderEdges.all();
         EmptyAndFullEdges.all();
         Sentences.checkAllQuoted();
+        Seen.checkAll(Calls.allOfTheFace());
         Check.finish();
     }
 }
