@@ -1,5 +1,6 @@
 import java.lang.reflect.InvocationTargetException;
 import java.lang.reflect.Method;
+import java.lang.reflect.Modifier;
 import java.util.ArrayList;
 import java.util.Arrays;
 import java.util.Collections;
@@ -10,15 +11,23 @@ import java.util.Random;
 
 /** Long runs of drawn calls, right and wrong ones, answered by the class and by PlainRegister alike. */
 public final class ModelTest {
-    private static final int RUNS = 420;
-    private static final int CALLS = 512;
+    private static final int RUNS = 1800;
+    /** The last one of 512 calls is isSound(). */
+    private static final int CALLS = 511;
+    private static final int FIRST_BIRTHS = 8;
+    /**
+     * Rules that runs begin with, five signs each, the clerk and the letters: none, those that leave nothing of an anna
+     * or make her longer, and those that make her longer alone. Most given names are hers then.
+     */
+    private static final String[] OPENINGS = {"", "0a   0n   1a aa1n nn", "0a aa0n nn1a aa1n nn2a aa2n nn"};
+    private static final int SIGNS_OF_RULE = 5;
     private static final long SEED = 20261119L;
 
-    /** Each call: its name, a letter for each argument (see draw), and how often it is drawn. */
+    /** Each call: its name, a letter for each argument (see Draw), and how often it is drawn. */
     private static final String[] CALLS_TO_DRAW = {
         "days d 10", "setSystem Ls 4", "setMarriage Lr 5", "ban LGz 5", "forbid Lz 4", "birth PPxGL 40", "cause D 5",
-        "causeNumber D 5", "die p 2", "marry pp 14", "spouse p 4", "deed pB 10", "tell pp 45", "move pLK 14",
-        "isAlive p 3", "landOf p 3", "persons - 2", "length pw 8", "letter pwi 10", "changes p 6", "wasCalled pDi 10",
+        "causeNumber D 5", "die p 3", "marry pp 14", "spouse p 4", "deed pB 10", "tell pp 45", "move pLK 14",
+        "isAlive p 5", "landOf p 5", "persons - 2", "length pw 8", "letter pwi 10", "changes p 6", "wasCalled pDi 10",
         "isSealed p 4", "bearers G 8", "fashion tt 6", "addRule Kllll 14", "dropRules K 2", "setLimit KM 5",
         "petition pGg 12", "oppose qp 30", "decide q 14", "record pKb 34", "records - 2", "slip czil 16",
         "writtenLength cz 5", "written czi 8", "key czi 12", "isClosed c 5", "sorted c 10", "setPrice m 6",
@@ -29,56 +38,88 @@ public final class ModelTest {
     /** Each run draws the calls of one of these more often, so that limits and deep states are met. */
     private static final String[] THEMES = {
         "", "petition oppose decide birth", "record slip sorted cluster clusters doubts", "addRule move record marry",
-        "deed tell birth marry", "birth forbid ban cause fashion bearers", "petition decide record move isLinked missed",
+        "deed tell birth marry die", "birth forbid ban cause fashion bearers", "petition decide record move isLinked missed",
+        "deed tell die length letter changes wasCalled spouse", "record price isLinked distance setPrice doubts",
+        "petition decide record key written writtenLength slip isClosed", "days petition oppose ban decide",
+        "marry die move birth", "tell die marry length letter wasCalled",
     };
 
+    private final Namebearers built = new Namebearers();
+    private final PlainRegister plain = new PlainRegister();
+    private final int run;
     private final Random random;
-    private final Map<String, Integer> answered = new HashMap<>();
+    private final String opening;
+    private final Draw draw;
+    private final Map<String, Integer> outcomes;
+    private final Circumstances circumstances;
 
-    private ModelTest(long seed) {
-        random = new Random(seed);
+    private ModelTest(int run, Map<String, Integer> outcomes, Circumstances circumstances) {
+        this.run = run;
+        this.outcomes = outcomes;
+        this.circumstances = circumstances;
+        random = new Random(SEED + run);
+        opening = OPENINGS[run % OPENINGS.length];
+        draw = new Draw(random, plain, opening.isEmpty() ? 4 : 1);
     }
 
     public static void main(String[] args) throws Exception {
         Map<String, Integer> outcomes = new HashMap<>();
-        for (int run = 0; run < RUNS; run++) {
-            ModelTest test = new ModelTest(SEED + run);
-            if (!test.runOnce(run)) {
-                break;
-            }
-            test.answered.forEach((outcome, times) -> outcomes.merge(outcome, times, Integer::sum));
+        Circumstances circumstances = new Circumstances();
+        boolean isAlike = true;
+        for (int run = 0; run < RUNS && isAlike; run++) {
+            isAlike = new ModelTest(run, outcomes, circumstances).runOnce();
         }
-        checkEveryOutcomeWasSeen(outcomes);
+        if (isAlike) {
+            checkEveryOutcomeWasSeen(outcomes);
+            circumstances.checkAllWereMet();
+        }
         Check.finish();
     }
 
-    private boolean runOnce(int run) throws Exception {
-        Namebearers built = new Namebearers();
-        PlainRegister plain = new PlainRegister();
-        List<String> urn = new ArrayList<>();
-        List<String> theme = List.of(THEMES[run % THEMES.length].split(" "));
-        for (String call : CALLS_TO_DRAW) {
-            String[] parts = call.split(" ");
-            int times = Integer.parseInt(parts[2]) * (theme.contains(parts[0]) ? 6 : 1);
-            urn.addAll(Collections.nCopies(times, call));
-        }
+    private boolean runOnce() throws Exception {
+        List<String> urn = urnOf(List.of(THEMES[run % THEMES.length].split(" ")));
+        int rules = opening.length() / SIGNS_OF_RULE;
         for (int i = 0; i < CALLS; i++) {
             // Some persons come first, so that the calls about them find some.
-            String[] parts = (i < 8 ? "birth PPxGL 0" : urn.get(random.nextInt(urn.size()))).split(" ");
-            Object[] arguments = drawAll(parts[1]);
-            Method method = methodNamed(parts[0]);
-            Method model = PlainRegister.class.getDeclaredMethod(parts[0], method.getParameterTypes());
-            model.setAccessible(true);
-            String got = answerOf(method, built, arguments, true);
-            String want = answerOf(model, plain, arguments, false);
-            answered.merge(parts[0] + " " + (want.startsWith("throws") ? want : "answers"), 1, Integer::sum);
-            if (!got.equals(want)) {
-                Check.due("run " + run + ", call " + i + ", " + parts[0] + Arrays.toString(arguments), got, want);
+            boolean isFirstBirth = i >= rules && i < rules + FIRST_BIRTHS;
+            String[] parts = (isFirstBirth ? "birth PPxGL 0" : urn.get(random.nextInt(urn.size()))).split(" ");
+            boolean isAlike = i < rules ? areAnswersAlike(i, "addRule", "Kllll", ruleOfOpening(i))
+                    : areAnswersAlike(i, parts[0], parts[1], draw.all(parts[1]));
+            if (!isAlike) {
                 return false;
             }
         }
         Check.isTrue("isSound at the end of run " + run, built.isSound());
         return true;
+    }
+
+    private Object[] ruleOfOpening(int number) {
+        String rule = opening.substring(number * SIGNS_OF_RULE);
+        return new Object[] {rule.charAt(0) - '0', rule.charAt(1), rule.charAt(2), rule.charAt(3), rule.charAt(4)};
+    }
+
+    private static List<String> urnOf(List<String> theme) {
+        List<String> urn = new ArrayList<>();
+        for (String call : CALLS_TO_DRAW) {
+            String[] parts = call.split(" ");
+            int times = Integer.parseInt(parts[2]) * (theme.contains(parts[0]) ? 6 : 1);
+            urn.addAll(Collections.nCopies(times, call));
+        }
+        return urn;
+    }
+
+    private boolean areAnswersAlike(int number, String name, String kinds, Object[] arguments) throws Exception {
+        circumstances.note(plain, name, kinds, arguments);
+        Method method = methodNamed(name);
+        Method model = PlainRegister.class.getDeclaredMethod(name, method.getParameterTypes());
+        model.setAccessible(true);
+        String got = answerOf(method, built, arguments, true);
+        String want = answerOf(model, plain, arguments, false);
+        outcomes.merge(name + " " + (want.startsWith("throws") ? want : "answers"), 1, Integer::sum);
+        if (!got.equals(want)) {
+            Check.due("run " + run + ", call " + number + ", " + name + Arrays.toString(arguments), got, want);
+        }
+        return got.equals(want);
     }
 
     private static Method methodNamed(String name) {
@@ -101,61 +142,10 @@ public final class ModelTest {
         }
     }
 
-    private Object[] drawAll(String kinds) {
-        if (kinds.equals("-")) {
-            return new Object[0];
-        }
-        Object[] arguments = new Object[kinds.length()];
-        for (int i = 0; i < arguments.length; i++) {
-            arguments[i] = draw(kinds.charAt(i));
-        }
-        if (kinds.equals("tt") && random.nextInt(6) != 0 && (int) arguments[0] > (int) arguments[1]) {
-            return new Object[] {arguments[1], arguments[0]};
-        }
-        return arguments;
-    }
-
-    private Object draw(char kind) {
-        boolean isWild = random.nextInt(60) == 0;
-        switch (kind) {
-            case 'd': return isWild ? wild() : oneOf(1, 2, 7, 10, 15, 29, 30, 31, 1 + random.nextInt(999));
-            case 's': return isWild ? wildSign() : "pmicd".charAt(random.nextInt(5));
-            case 'r': return isWild ? wildSign() : "kmth".charAt(random.nextInt(4));
-            case 'x': return isWild ? wildSign() : "mf".charAt(random.nextInt(2));
-            case 'g': return isWild ? wildSign() : "mus".charAt(random.nextInt(3));
-            case 'w': return isWild ? wildSign() : "gsbfo".charAt(random.nextInt(5));
-            case 'l': return isWild ? wildSign() : random.nextInt(3) == 0 ? ' ' : "annejorlkisdbgt".charAt(random.nextInt(15));
-            case 'L': case 'K': case 'b': case 'B': return isWild ? wild() : random.nextInt(4);
-            case 'G': return isWild ? wild() : random.nextInt(random.nextBoolean() ? 16 : 4);
-            case 'P': return isWild ? wild() : random.nextInt(3) == 0 ? -1 : random.nextInt(12);
-            case 'p': return isWild ? wild() : random.nextInt(random.nextInt(3) == 0 ? 40 : 8);
-            case 'q': return isWild ? wild() : random.nextInt(20);
-            case 'c': return isWild ? wild() : random.nextInt(random.nextBoolean() ? 40 : 12);
-            case 'D': return isWild ? wild() : random.nextInt(3);
-            case 'i': return isWild ? wild() : random.nextInt(random.nextBoolean() ? 5 : 30);
-            case 'M': return isWild ? wild() : oneOf(1, 2, 3, 6, 12, 23, 24, 24);
-            case 'm': return isWild ? wild() : oneOf(0, 4, 12, 20, 40, 80, 99);
-            case 't': return isWild ? wild() : random.nextInt(2000);
-            default: return random.nextBoolean();
-        }
-    }
-
-    private Integer oneOf(int... values) {
-        return values[random.nextInt(values.length)];
-    }
-
-    private Integer wild() {
-        return oneOf(-1, -2, 4, 5, 16, 20, 25, 40, 41, 64, 100, 1000, Integer.MAX_VALUE, Integer.MIN_VALUE, 0);
-    }
-
-    private Character wildSign() {
-        return (char) (int) oneOf('a' - 1, 'z' + 1, 'A', '-', ' ', 0, 255, 65535, 'M', 'q');
-    }
-
     /** A run of drawn calls proves little of an outcome that it never met. */
     private static void checkEveryOutcomeWasSeen(Map<String, Integer> outcomes) {
         for (Method method : Namebearers.class.getDeclaredMethods()) {
-            if (java.lang.reflect.Modifier.isPublic(method.getModifiers())) {
+            if (Modifier.isPublic(method.getModifiers())) {
                 Check.isTrue(method.getName() + " was answered", outcomes.containsKey(method.getName() + " answers"));
                 for (Class<?> exception : method.getExceptionTypes()) {
                     String outcome = method.getName() + " throws " + exception.getName();

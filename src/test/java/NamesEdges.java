@@ -123,6 +123,24 @@ final class NamesEdges {
             length(4, 'f') -> 3
             length(4, 'o') -> 2
             """);
+        // Who is dead, or sealed, is called as before.
+        Runs.due(19, kinds, NAMED + """
+            petition(2, 5, 's')
+            days(30)
+            decide(0) -> true
+            name(2, 'f') -> "freya lame larsson"
+            die(2)
+            length(2, 'g') -> 5
+            length(2, 's') -> 7
+            length(2, 'b') -> 4
+            length(2, 'f') -> 18
+            length(2, 'o') -> 6
+            name(2, 'g') -> "freya"
+            name(2, 's') -> "larsson"
+            name(2, 'b') -> "lame"
+            name(2, 'f') -> "freya lame larsson"
+            name(2, 'o') -> "freyas"
+            """);
         Runs.due(19, "Returns the number of signs.", Runs.ONE + """
             length(0, 'g') -> 4
             length(0, 's') -> 0

@@ -6,14 +6,14 @@ import java.util.TreeSet;
 
 /** The document once more, in the plainest Java, without care for speed or room: what ModelTest compares with. */
 final class PlainRegister {
-    private static final List<String> GIVEN = List.of("anna", "bjorn", "carla", "david", "erik", "freya", "gunnar",
+    static final List<String> GIVEN = List.of("anna", "bjorn", "carla", "david", "erik", "freya", "gunnar",
             "hanna", "ivar", "jon", "karin", "lars", "maria", "nils", "olga", "pal");
     private static final List<String> HOUSES = List.of("berg", "lund", "holm", "strand", "dahl", "moe", "vik", "haug");
     private static final List<String> BY_NAMES = List.of("red", "tall", "wise", "lame");
     private static final List<String> DAYS = List.of("sun", "moon", "tyr", "odin", "thor", "frig", "bath");
     private static final List<String> GENERATIONS = List.of("an", "be", "co", "du");
 
-    private static final class Somebody {
+    static final class Somebody {
         int mother;
         int father;
         char sex;
@@ -32,7 +32,7 @@ final class PlainRegister {
         List<String> before = new ArrayList<>();
     }
 
-    private static final class Asked {
+    static final class Asked {
         int person;
         int given;
         char ground;
@@ -41,7 +41,7 @@ final class PlainRegister {
         TreeSet<Integer> against = new TreeSet<>();
     }
 
-    private static final class Line {
+    static final class Line {
         int person;
         int book;
         int day;
@@ -50,20 +50,20 @@ final class PlainRegister {
         String second;
     }
 
-    private final char[] systems = "picm".toCharArray();
+    final char[] systems = "picm".toCharArray();
     private final char[] marriages = "kmth".toCharArray();
-    private final boolean[][] banned = new boolean[4][16];
-    private final boolean[] forbidden = new boolean[4];
+    final boolean[][] banned = new boolean[4][16];
+    final boolean[] forbidden = new boolean[4];
     private final List<List<String[]>> rules =
             List.of(new ArrayList<>(), new ArrayList<>(), new ArrayList<>(), new ArrayList<>());
     private final int[] limits = {24, 24, 24, 24};
-    private final List<Somebody> all = new ArrayList<>();
-    private final List<Asked> asked = new ArrayList<>();
-    private final List<Line> lines = new ArrayList<>();
+    final List<Somebody> all = new ArrayList<>();
+    final List<Asked> asked = new ArrayList<>();
+    final List<Line> lines = new ArrayList<>();
     private final List<Character> causes = new ArrayList<>();
     private final List<Integer> causeNumbers = new ArrayList<>();
-    private int today = 0;
-    private int limit = 12;
+    int today = 0;
+    int limit = 12;
 
     private static void argument(boolean isRight) {
         if (!isRight) {

@@ -498,6 +498,26 @@ final class RecordTermsEdges {
             slip(2, false, 9, 'z')
             doubts() -> 0
             """);
+        // The dearest link of all is in doubt too.
+        due(doubt, """
+            birth(-1, -1, 'f', 0, 0)
+            birth(-1, -1, 'm', 0, 0)
+            addRule(0, 'a', ' ', 'a', 'a')
+            addRule(0, 'n', ' ', 'n', 'n')
+            2 x move(%, 1, 0)
+            record(0, 0, 0)
+            13 x slip(0, false, %, 'z')
+            days(100)
+            record(1, 0, 0)
+            price(0, 1) -> 99                // 3 times 13 letters, unlike sexes, and 10
+            doubts() -> 0
+            setPrice(98)
+            doubts() -> 0
+            setPrice(99)
+            isLinked(0, 1) -> true
+            clusters() -> 1
+            doubts() -> 1
+            """);
         due(doubt, """
             birth(-1, -1, 'f', 0, 0)
             birth(-1, -1, 'm', 0, 0)
