@@ -1,63 +1,48 @@
+import com.sun.source.tree.CompilationUnitTree;
+import com.sun.source.tree.ImportTree;
+import com.sun.source.util.JavacTask;
+import com.sun.source.util.Trees;
 import java.nio.file.Files;
 import java.nio.file.Path;
-import java.util.ArrayList;
 import java.util.List;
-import java.util.regex.Matcher;
-import java.util.regex.Pattern;
+import javax.tools.JavaCompiler;
+import javax.tools.StandardJavaFileManager;
+import javax.tools.ToolProvider;
 
-/** The text of the class keeps to what a search can see of ../shared/LANGUAGE.md. */
+/**
+ * The class keeps to ../shared/LANGUAGE.md, as far as its text shows it: the compiler reads it, and each class, member,
+ * type, call and statement is held against the rules. Where the class does without what a rule allows, as recursion or
+ * try, this test does not allow it either. That no call throws by itself (rule 7) is for ModelTest and EdgesTest to see.
+ */
 public final class LanguageTest {
-    private static final String[] BANNED = {
-        "->", "::", "String\\[\\]", "\\btry\\b", "\\bcatch\\b", "\\bfinally\\b", "\\bassert\\b", "\\bsynchronized\\b",
-        "\\bvar\\b", "\\bMath\\.\\w*Exact\\b", "\"\\s*\\+", "\\+\\s*\"", "\\bpackage\\b", "\\bdouble\\b.*%", "\\bSystem\\.",
-        "\\bcompareTo\\b", "\\.format\\b", "\\.split\\b", "\\.contains\\b", "\\.valueOf\\b", "\\.chars\\b", "\\bnew String\\b",
-        "StringBuilder\\([^)]", "\\.hashCode\\b", "\\bstatic \\{", "\\bIterator\\b", "\\bbreak \\w+;"
-    };
+    private static final Path SOURCE = Path.of("src/main/java/Namebearers.java");
     private static final List<String> IMPORTS =
-            List.of("import java.util.ArrayList;", "import java.util.NoSuchElementException;");
+            List.of("java.util.ArrayList", "java.util.List", "java.util.Arrays", "java.util.NoSuchElementException",
+                    "java.util.Iterator");
 
     public static void main(String[] args) throws Exception {
-        List<String> lines = Files.readAllLines(Path.of("src/main/java/Namebearers.java"));
-        List<String> imports = new ArrayList<>();
-        int classes = 0;
-        for (String line : lines) {
-            String code = line.replaceAll("//.*|/\\*\\*.*\\*/", "");
-            if (code.startsWith("import ")) {
-                imports.add(code);
-                continue;
-            }
-            classes += code.contains(" class ") ? 1 : 0;
-            for (String banned : BANNED) {
-                Check.isFalse(banned + " in: " + line, Pattern.compile(banned).matcher(code).find());
-            }
-            checkThrow(line, code);
-            Check.isTrue("signs of 1 to 127 in: " + line, line.chars().allMatch(sign -> sign >= 1 && sign <= 127));
+        JavaCompiler compiler = ToolProvider.getSystemJavaCompiler();
+        try (StandardJavaFileManager files = compiler.getStandardFileManager(null, null, null)) {
+            JavacTask task = (JavacTask) compiler.getTask(null, files, null, List.of("-proc:none"), null,
+                    files.getJavaFileObjects(SOURCE));
+            CompilationUnitTree unit = task.parse().iterator().next();
+            task.analyze();
+            checkFile(unit);
+            Rules rules = new Rules(Trees.instance(task), unit);
+            rules.scan(unit, null);
+            rules.finish();
         }
-        Check.due("the imports", imports, IMPORTS);
-        Check.isTrue("some twelve classes, not " + classes, classes <= 12);
-        Check.isTrue("methods of some sixty lines, not " + longestMethod(lines), longestMethod(lines) <= 60);
         Check.finish();
     }
 
-    private static void checkThrow(String line, String code) {
-        Matcher thrown = Pattern.compile("\\bthrow\\b(.*)").matcher(code);
-        if (thrown.find()) {
-            Check.isTrue("a written text is thrown in: " + line, thrown.group(1).matches(" new \\w+\\(\"[^\"]*\"\\);"));
+    private static void checkFile(CompilationUnitTree unit) throws Exception {
+        Check.promise(0, "rules 1, 3 and 4: one file");
+        Check.isTrue("there is no package line", unit.getPackage() == null);
+        Check.due("the number of classes in the file", unit.getTypeDecls().size(), 1);
+        for (ImportTree imported : unit.getImports()) {
+            Check.isTrue(imported.toString(), IMPORTS.contains(imported.getQualifiedIdentifier().toString()));
         }
-    }
-
-    private static int longestMethod(List<String> lines) {
-        int longest = 0;
-        int start = -1;
-        for (int i = 0; i < lines.size(); i++) {
-            String line = lines.get(i);
-            if (line.matches(" {4}( {4})?(public|private) .*") && !line.contains(" class ") && !line.contains(";")) {
-                start = i;
-            } else if (line.matches(" {4}( {4})?\\}") && start >= 0) {
-                longest = Math.max(longest, i - start + 1);
-                start = -1;
-            }
-        }
-        return longest;
+        Check.isTrue("the text has signs of 1 to 127 alone",
+                Files.readString(SOURCE).chars().allMatch(sign -> sign >= 1 && sign <= 127));
     }
 }

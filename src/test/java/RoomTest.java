@@ -23,6 +23,12 @@ public final class RoomTest {
         spend("bearers", x -> x.bearers(15));
         spend("fashion", x -> x.fashion(0, 99));
         spend("doubts", Namebearers::doubts);
+        spend("wrong and missed", x -> {
+            x.wrong();
+            x.missed();
+        });
+        spend("letter", x -> x.letter(0, 'f', 0));
+        spend("move", x -> x.move(0, (x.landOf(0) + 1) % 4, 0));
         Check.finish();
     }
 
@@ -42,6 +48,9 @@ public final class RoomTest {
     private static Namebearers filled() {
         Namebearers x = new Namebearers();
         x.setMarriage(2, 'h');
+        for (int i = 0; i < 8; i++) {
+            x.addRule(0, (char) ('s' + i), ' ', 'z', 'z');
+        }
         for (int i = 0; i < 40; i++) {
             x.birth(-1, -1, 'f', i % 15, 2);
             x.deed(i, 1);
